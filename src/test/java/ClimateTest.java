@@ -74,9 +74,17 @@ public final class ClimateTest {
         // CLIMB 200 * 100 = 20,000; less 1,620,000: 4,880,000; by 300 cut down: 16,266
         Check.is("16: steep, by the level one", x.middle(1, 100), 16266);
         Check.is("16: steep", x.middle(1, 10800), 5400);
+        Check.is("16: the last PLACE", x.middle(0, 21599), 16199);
+        Tell.house(x, "climate 2 1 299 600 300 300 300 300 300 300 300 300 300;");
+        // the CLIMB of PLACE 5400 is 1800 * 900 = 1,620,000: just 0; that of 5399 is 600 less: 2 PLACES ahead
+        Check.is("16: just 0", x.middle(2, 5400), 0);
+        Check.is("16: just ahead of it", x.middle(2, 5399), 21598);
+        Check.is("15: RISING 1", x.rise(2, 0, 0), 0);
+        Check.is("15: RISING 1", x.rise(2, 7, 0), 7);
+        Check.is("15: RISING 1", x.climb(2, 1799), 1799);
         Check.missing("16: PLACE", () -> x.middle(0, 21600));
         Check.missing("16: PLACE", () -> x.middle(0, -1));
-        Check.missing("16: CLIMATE", () -> x.middle(2, 0));
+        Check.missing("16: CLIMATE", () -> x.middle(3, 0));
     }
 
     private static void hours() {
@@ -92,6 +100,13 @@ public final class ClimateTest {
         // steep: 60 * 59 minutes of RISING 400 on from SIGN 5: CLIMB on 1,416,000 to below 1,440,000: TIME 79 alone
         Check.is("17: later SIGNS", x.hour(0, 1, -1), 2);
         Check.is("17: later SIGNS", x.hour(0, 1, 1), 360 + 79);
+        Tell.told(x, 0, 3, "sun 3 3;rise 3 3;");
+        Check.is("17: at once, by both, and 56 minutes on", x.hour(0, 3, -1), 3);
+        Check.is("17: TIME 0", x.hour(0, 3, 0), 0);
+        Check.is("17: TIME 0", x.hour(0, 3, 1), 360);
+        Check.is("29: TIME 0 is an HOUR", x.possible(0, 3, 1), 3);
+        Tell.told(x, 0, 3, "sun 3 3;rise 3 2;");
+        Check.is("17: TIME 359", x.hour(0, 3, 0), 359);
         Tell.told(x, 0, 2, "sun 0 0;");
         Check.is("17: RISE isn't told", x.hour(0, 2, -1), -1);
         Check.missing("17: RISE isn't told", () -> x.hour(0, 2, 0));
@@ -169,6 +184,10 @@ public final class ClimateTest {
         Tell.told(x, 0, 0, "rise 1 10;sun 0 0;house 4 4 10;");
         Check.is("29: WAYS 1 and 2", x.possible(0, 0, 0), 6);
         Check.is("29: CLIMATE 0", x.possible(0, 0, 1), 1);
+        Tell.told(x, 0, 0, "rise 1 10;sun 0 0;house 5 5 10;house 9 9 10;house 3 3 10;");
+        Check.is("29: WAY 1", x.possible(0, 0, 0), 6);
+        Tell.told(x, 0, 0, "rise 0 2;sun 0 0;house 2 1 2;house 11 10 1;");
+        Check.is("29: neither", x.possible(0, 0, 0), 0);
         Tell.told(x, 0, 0, "rise 1 10;house 3 3 0;");
         Check.is("29: WAY 0", x.possible(0, 0, 0), 1);
         Check.is("29: sun isn't told", x.possible(0, 0, 1), -1);

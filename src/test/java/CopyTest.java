@@ -7,6 +7,7 @@ public final class CopyTest {
         treesOfLikeSums();
         keptTree();
         slips();
+        slipsOfTheFirstBook();
         handed();
         leaves();
         orders();
@@ -116,10 +117,25 @@ public final class CopyTest {
         Tell.told(x, 1, 0, "sun 0 12;");
         Check.is("30: what is told now counts, by the TREE that is kept", x.slips(12, 11), 1);
         Check.is("30: what is told now counts", x.slips(3, 1), 0);
+        Check.is("30: read 29", x.slips(29, 0), 0);
+        Check.is("30: stood 29", x.slips(0, 29), 0);
         Check.missing("30: read 30", () -> x.slips(30, 0));
         Check.missing("30: read -1", () -> x.slips(-1, 0));
         Check.missing("30: stood 30", () -> x.slips(0, 30));
         Check.missing("30: stood -1", () -> x.slips(0, -1));
+    }
+
+    /** The copy is BOOK 0, and what was misread stands in its last WHEEL. */
+    private static void slipsOfTheFirstBook() {
+        WheelBook x = Tell.withHouse("hand 12 for 11;hand 12 for 10;hand 13 for 11;");
+        Tell.told(x, 5, 19, "sun 0 11;moon 0 10;mars 0 11;venus 1 1;");
+        Tell.told(x, 0, 19, "sun 0 12;moon 0 12;mars 0 13;");
+        Check.is("36: copied from the fuller one", x.tree(), 4);
+        whence("the first one copied from the last", x, 5, -2, -2, -2, -2, -1);
+        Check.is("30: both must be that", x.slips(12, 11), 1);
+        Check.is("30: both must be that", x.slips(12, 10), 1);
+        Check.is("30: both must be that", x.slips(13, 11), 1);
+        Check.is("30: both must be that", x.slips(13, 10), 0);
     }
 
     private static void handed() {
@@ -131,6 +147,10 @@ public final class CopyTest {
         Check.is("31: the other way", x.handed(1, 0, 2), 2);
         Check.is("31: none", x.handed(0, 2, 1), 0);
         Check.is("31: of itself", x.handed(0, 0, 1), 1);
+        Tell.told(x, 3, 0, "sun 1 1;");
+        Tell.told(x, 4, 0, "sun 1 1;");
+        Tell.told(x, 5, 0, "sun 1 2;");
+        Check.is("31: the very first ENTRY", x.handed(3, 4, 5), 1);
         Check.is("31: beside itself", x.handed(0, 1, 0), 0);
         Check.missing("31: a", () -> x.handed(6, 0, 0));
         Check.missing("31: b", () -> x.handed(0, -1, 0));
@@ -213,6 +233,13 @@ public final class CopyTest {
         Check.is("35: itself", x.births(21, 1), 21);
         Check.is("35: tells nothing", x.births(0, 1), 0);
         Check.is("35: tells nothing", x.births(118, 7), 118);
+        Tell.told(x, 0, 0, "sun 0 12;");
+        Check.is("35: WHEEL 0 with them", x.births(119, 1), 0);
+        Check.is("35: WHEEL 0 with them", x.births(7, 1), 0);
+        Check.is("35: WHEEL 0 is in a part", x.births(-1, 1), 2);
+        Tell.told(x, 0, 0, "sun 5 5;");
+        Check.is("35: WHEEL 0 is a part", x.births(-1, 1), 3);
+        Check.is("35: WHEEL 0 by itself", x.births(0, 1), 0);
         Check.missing("35: k 0", () -> x.births(-1, 0));
         Check.missing("35: k 8", () -> x.births(0, 8));
         Check.missing("35: 120", () -> x.births(120, 1));

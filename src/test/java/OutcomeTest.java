@@ -79,6 +79,7 @@ public final class OutcomeTest {
         Check.is("39: no such house", x.fate(1, 13), false);
         Check.is("39: nothing changes", x.fates(0), 2);
         Check.is("6: FATES", x.count(5), 5);
+        Check.is("39: the last WHEEL", x.fate(19, 12), true);
         Check.missing("39: WHEEL", () -> x.fate(20, 1));
         Check.missing("39: WHEEL comes first", () -> x.fate(-1, 13));
         Check.missing("40: what 2", () -> x.fates(2));

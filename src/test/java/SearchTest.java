@@ -112,10 +112,13 @@ public final class SearchTest {
         Check.missing("22: BOOK", () -> x.seek(6, 0, 0, 0));
         Check.missing("22: WHEEL", () -> x.seek(0, 20, 0, 0));
         Check.missing("22: SET", () -> x.seek(0, 0, 4, 0));
+        Check.missing("22: SET", () -> x.seek(0, 0, -1, 0));
         Check.missing("22: DAY", () -> x.seek(0, 0, 0, 1000001));
         Check.missing("22: DAY", () -> x.seek(0, 0, 0, -1));
         Check.missing("24: what 5", () -> x.held(5));
         Check.missing("24: what -1", () -> x.held(-1));
         held("as ahead of it", x, 10, 9, 2, 8, 9);
+        x.seek(0, 0, 3, 1);
+        held("by SET 3", x, 1, -1, 0, -1, -1);
     }
 }

@@ -70,7 +70,9 @@ public final class SkyTest {
         Check.is("9: a WHEEL that tells nothing", x.cost(5, 19, 3, 1000000), 0);
         Check.missing("9: BOOK", () -> x.cost(6, 0, 0, 0));
         Check.missing("9: WHEEL", () -> x.cost(0, 20, 0, 0));
+        Check.is("9: SET 3", x.cost(0, 0, 3, 0), 18);
         Check.missing("9: SET", () -> x.cost(0, 0, 4, 0));
+        Check.missing("9: SET", () -> x.cost(0, 0, -1, 0));
         Check.missing("9: DAY", () -> x.cost(0, 0, 0, 1000001));
         Check.missing("9: DAY", () -> x.cost(0, 0, 0, -1));
     }
@@ -125,9 +127,11 @@ public final class SkyTest {
         Check.missing("10: DAY comes first", () -> x.best(0, 0, 0, -1, 50001));
         Check.missing("10: DAY", () -> x.best(0, 0, 0, 1000001, 0));
         Check.missing("10: SET", () -> x.best(0, 0, 4, 0, 0));
+        Check.missing("10: SET", () -> x.best(0, 0, -1, 0, 0));
         Check.missing("10: BOOK", () -> x.best(6, 0, 0, 0, 0));
         Check.missing("10: WHEEL", () -> x.best(0, -1, 0, 0, 0));
         Check.is("11: what was kept stays", x.day(1), 6);
+        Check.is("10: by SET 3", x.best(0, 0, 3, 7, 0), 0);
     }
 
     private static void whose() {
@@ -137,6 +141,11 @@ public final class SkyTest {
         Check.is("12: SET", x.whose(0, 0, 0, 9, 0), 2);
         Check.is("12: COST", x.whose(0, 0, 0, 9, 1), 0);
         Check.is("12: by how many", x.whose(0, 0, 0, 9, 2), 1);
+        Check.is("12: the last DAY counts", x.whose(0, 0, 351, 9, 1), 0);
+        Check.is("12: the DAY behind it doesn't", x.whose(0, 0, 350, 9, 1), 1);
+        Tell.told(x, 0, 1, "sun 0 0;");
+        Check.is("12: SET 0", x.whose(0, 1, 0, 9, 0), 0);
+        Check.is("12: SET 0 alone", x.whose(0, 1, 0, 9, 2), 1);
         Check.is("12: of like ones the least", x.whose(0, 0, 1, 9, 0), 1);
         Check.is("12: COST 1", x.whose(0, 0, 1, 9, 1), 1);
         Check.is("12: two SETS", x.whose(0, 0, 1, 9, 2), 2);
@@ -159,6 +168,9 @@ public final class SkyTest {
         Check.is("13: DATES count for nothing", x.mixed(0, 0, 0, 359), 1);
         Check.is("13: that DAY alone", x.mixed(0, 0, 5, 0), 1);
         Check.is("13: COST 1 is not enough", x.mixed(0, 0, 6, 0), 0);
+        Check.is("13: from a DAY on", x.mixed(0, 0, 2, 3), 1);
+        Check.is("13: not ahead of it", x.mixed(0, 0, 6, 300), 0);
+        Check.is("13: not behind its end", x.mixed(0, 0, 2, 2), 0);
         Tell.told(x, 0, 0, "sun 0 10;moon 0 10;");
         Check.is("13: all by one", x.mixed(0, 0, 0, 359), 0);
         Tell.told(x, 0, 0, "sun 0 5;");
@@ -185,7 +197,9 @@ public final class SkyTest {
         Check.is("27: its degree, but by no HAND", x.misread(2, 2, 0, 0, 1), 9);
         Check.missing("27: WANDERER", () -> x.misread(2, 2, 0, 0, 7));
         Check.missing("27: WANDERER", () -> x.misread(2, 2, 0, 0, -1));
+        Check.is("27: SET 3", x.misread(2, 2, 3, 0, 1), 9);
         Check.missing("27: SET", () -> x.misread(2, 2, 4, 0, 0));
+        Check.missing("27: SET", () -> x.misread(2, 2, -1, 0, 0));
         Check.missing("27: DAY", () -> x.misread(2, 2, 0, 1000001, 0));
         Check.missing("27: BOOK", () -> x.misread(6, 2, 0, 0, 0));
         Check.missing("27: WHEEL", () -> x.misread(2, 20, 0, 0, 0));
@@ -203,6 +217,11 @@ public final class SkyTest {
         }
         Tell.told(x, 0, 1, "sun 0 10;");
         Check.is("28: of like ones the least", x.errors(0, 1, 0, 1), 1);
+        Tell.told(x, 0, 2, "sun 0 10;");
+        Tell.house(x, "set 1 sun at 0 goes 0;set 2 sun at 0 goes 0;");
+        Check.is("28: the sun by SET 3 alone", x.errors(0, 2, 0, 7), 1);
+        Check.is("28: its WEIGHT", x.errors(0, 2, 0, 10), 6);
+        Check.is("28: followed", x.errors(0, 2, 0, 1), 3);
         Tell.told(x, 0, 2, "venus 5 5;");
         Check.is("28: followed by none", x.errors(0, 2, 0, 1), -1);
         Check.is("28: an ERROR yet", x.errors(0, 2, 0, 0), 1);

@@ -95,6 +95,11 @@ public final class TextTest {
         houseFault("hand 1\u00e9for 2;", 1, 6);
         houseFault("hands 1 for 2;", 1, 0);
         houseFault("han 1 for 2;", 1, 0);
+        houseFault("land 1 for 2;", 1, 0);
+        houseFault("handz 1 for 2;", 1, 0);
+        houseFault("hand 1 forz 2;", 1, 7);
+        houseFault("hand 1 for 2 z", 1, 13);
+        houseFault("azz", 1, 0);
         houseFault("hand 1 for 2;;", 1, 13);
         houseFault("hand 1 for 2; hand 3 for x;", 1, 25);
         houseFault("hand 30 for x;", 2, 5);
