@@ -374,7 +374,11 @@ public final class WheelBook {
     }
 
     public int tree() {
-        return copies.growFrom(told.hands, books);
+        if (!copies.setBooks(books)) {
+            return NONE;
+        }
+        copies.setPrices(told.hands, books);
+        return copies.grow();
     }
 
     public int whence(int book) throws NoSuchElementException {
@@ -549,29 +553,19 @@ public final class WheelBook {
             if (at >= end) {
                 kind = END;
             } else if (isLetter(bytes[at])) {
-                passWord();
+                kind = WORD;
+                while (at < end && isLetter(bytes[at])) {
+                    at++;
+                }
             } else if (isDigit(bytes[at])) {
-                passNumber();
+                kind = NUMBER;
+                value = 0;
+                while (at < end && isDigit(bytes[at])) {
+                    value = at - start < MOST_DIGITS ? 10 * value + bytes[at] - '0' : value;
+                    at++;
+                }
             } else {
                 kind = bytes[at] == ';' ? STOP : OTHER;
-                at++;
-            }
-        }
-
-        private void passWord() {
-            kind = WORD;
-            while (at < end && isLetter(bytes[at])) {
-                at++;
-            }
-        }
-
-        private void passNumber() {
-            kind = NUMBER;
-            value = 0;
-            while (at < end && isDigit(bytes[at])) {
-                if (at - start < MOST_DIGITS) {
-                    value = 10 * value + bytes[at] - '0';
-                }
                 at++;
             }
         }
@@ -1332,29 +1326,30 @@ public final class WheelBook {
             return entry != DATE && hands.costBeside(read, stood) == 1 ? 1 : 3;
         }
 
-        int growFrom(Hands hands, Books books) {
+        /** Whether there is a BOOK that tells something, and with it a TREE. */
+        boolean setBooks(Books books) {
             boolean some = false;
             for (int book = 0; book < BOOKS; book++) {
                 row[book] = books.bookTells(book) ? OPEN : ABSENT;
                 some = some || row[book] == OPEN;
             }
-            if (!some) {
-                return NONE;
-            }
-            setPrices(hands, books);
-            least = ABOVE_ALL;
-            choose(0, 0, false);
-            isKept = true;
-            return least;
+            return some;
         }
 
-        private void setPrices(Hands hands, Books books) {
+        void setPrices(Hands hands, Books books) {
             for (int from = 0; from < BOOKS; from++) {
                 for (int copy = 0; copy < BOOKS; copy++) {
                     boolean both = row[from] == OPEN && row[copy] == OPEN;
                     prices[BOOKS * from + copy] = both ? priceOf(hands, books, from, copy) : 0;
                 }
             }
+        }
+
+        int grow() {
+            least = ABOVE_ALL;
+            choose(0, 0, false);
+            isKept = true;
+            return least;
         }
 
         /** Rows come in their order, NONE first, so of like sums the first found stays. */

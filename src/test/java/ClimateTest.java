@@ -11,6 +11,7 @@ public final class ClimateTest {
         housesByMiddle();
         agreements();
         possibleWays();
+        unevenLevel();
         lots();
         Check.end("ClimateTest");
     }
@@ -79,6 +80,8 @@ public final class ClimateTest {
         // the CLIMB of PLACE 5400 is 1800 * 900 = 1,620,000: just 0; that of 5399 is 600 less: 2 PLACES ahead
         Check.is("16: just 0", x.middle(2, 5400), 0);
         Check.is("16: just ahead of it", x.middle(2, 5399), 21598);
+        Check.is("16: CLIMB 299, cut down", x.middle(2, 299), 16200);
+        Check.is("16: CLIMB 300", x.middle(2, 300), 16201);
         Check.is("15: RISING 1", x.rise(2, 0, 0), 0);
         Check.is("15: RISING 1", x.rise(2, 7, 0), 7);
         Check.is("15: RISING 1", x.climb(2, 1799), 1799);
@@ -201,6 +204,20 @@ public final class ClimateTest {
         Check.missing("29: what -1", () -> x.possible(0, 0, -1));
         Check.missing("29: BOOK", () -> x.possible(6, 0, 0));
         Check.missing("29: WHEEL", () -> x.possible(0, 20, 0));
+    }
+
+    /** CLIMATE 0 is THE LEVEL one whatever its numbers are. */
+    private static void unevenLevel() {
+        WheelBook x = Tell.withHouse("climate 0 200 240 280 320 360 400 400 360 320 280 240 200;");
+        // DEGREE 0: CLIMB 0, less 1,620,000: 4,860,000; 1800 * 2560 are ahead of SIGN 8: 252,000 by 320: 787 minutes in it
+        Check.is("16: uneven", x.middle(0, 0), 8 * 1800 + 787);
+        Check.is("18: uneven", x.houseOf(0, 2, 0, 10), 253);
+        Tell.told(x, 0, 0, "rise 0 0;house 10 9 0;");
+        Check.is("29: WAYS 0 and 1", x.possible(0, 0, 0), 3);
+        Tell.told(x, 0, 0, "rise 0 1;house 10 9 1;");
+        Check.is("29: WAY 1 alone", x.possible(0, 0, 0), 2);
+        Tell.told(x, 0, 0, "rise 0 0;house 10 8 13;");
+        Check.is("29: WAY 2 alone", x.possible(0, 0, 0), 4);
     }
 
     private static void lots() {

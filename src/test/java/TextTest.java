@@ -112,6 +112,7 @@ public final class TextTest {
         houseFault("set 4 sun at 0 goes 0;", 2, 4);
         houseFault("set sun at 0 goes 0;", 1, 4);
         houseFault("set 0 lot at 0 goes 0;", 1, 6);
+        houseFault("set 0 rise at 0 goes 0;", 1, 6);
         houseFault("set 0 7 at 0 goes 0;", 1, 6);
         houseFault("set 0 sun at 21600 goes 0;", 2, 13);
         houseFault("set 0 sun goes 0;", 1, 10);
