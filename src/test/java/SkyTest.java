@@ -34,6 +34,9 @@ public final class SkyTest {
         Check.is("7: long swing", x.place(3, 6, 400000), 21600 - 6480);
         Check.is("7: long swing", x.place(3, 6, 1000000), 10800);
         Check.is("7: not told", x.place(3, 5, 1000000), 0);
+        Tell.house(x, "set 3 sun at 5 goes 0 swing 1 in 2;");
+        Check.is("7: least swing", x.place(3, 0, 0), 6);
+        Check.is("7: least swing", x.place(3, 0, 1), 4);
     }
 
     private static void placesRefused() {
