@@ -5,6 +5,7 @@ import java.util.function.LongSupplier;
 final class Check {
     private static int wrong = 0;
     private static int looked = 0;
+    private static String sentence = "";
 
     private Check() {
     }
@@ -13,11 +14,16 @@ final class Check {
         void run();
     }
 
+    /** What follows looks at this sentence of the document; its words come with every wrong answer. */
+    static void sentence(String words) {
+        sentence = " (by '" + words + "')";
+    }
+
     static void is(String what, long got, long due) {
         looked++;
         if (got != due) {
             wrong++;
-            System.out.println(what + " answered " + got + ", due is " + due);
+            System.out.println(what + " answered " + got + ", due is " + due + sentence);
         }
     }
 
@@ -43,7 +49,7 @@ final class Check {
         }
         if (!got.equals(due.getName())) {
             wrong++;
-            System.out.println(what + " threw " + got + ", due is " + due.getName());
+            System.out.println(what + " threw " + got + ", due is " + due.getName() + sentence);
         }
     }
 

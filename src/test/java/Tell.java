@@ -39,4 +39,29 @@ final class Tell {
     static void told(WheelBook x, int book, int wheel, String text) {
         Check.is("wheel of " + text, wheel(x, book, wheel, text), 0);
     }
+
+    static WheelBook withWheel(String text) {
+        WheelBook x = new WheelBook();
+        told(x, 0, 0, text);
+        return x;
+    }
+
+    /** Looks at what a new object answers of the text as a HOUSE: the FAULT (0 of none) and its place. */
+    static void houseFault(String text, int fault, int place) {
+        houseFault(new WheelBook(), text, fault, place);
+    }
+
+    static void houseFault(WheelBook x, String text, int fault, int place) {
+        Check.is("3: house " + text, house(x, text), fault);
+        Check.is("5: fault of " + text, x.fault(), place);
+        Check.is("3: the tape is empty behind " + text, x.count(4), 0);
+    }
+
+    /** The same of the text as a WHEEL. */
+    static void wheelFault(String text, int fault, int place) {
+        WheelBook x = new WheelBook();
+        Check.is("4: wheel " + text, wheel(x, 3, 7, text), fault);
+        Check.is("5: fault of " + text, x.fault(), place);
+        Check.is("4: the tape is empty behind " + text, x.count(4), 0);
+    }
 }

@@ -61,85 +61,71 @@ public final class TextTest {
         Check.illegal("3: far too many", () -> x.house(Integer.MAX_VALUE));
     }
 
-    private static void houseFault(String text, int fault, int place) {
-        WheelBook x = new WheelBook();
-        Check.is("3: house " + text, Tell.house(x, text), fault);
-        Check.is("5: fault of " + text, x.fault(), place);
-        Check.is("3: the tape is empty behind " + text, x.count(4), 0);
-    }
-
-    private static void wheelFault(String text, int fault, int place) {
-        WheelBook x = new WheelBook();
-        Check.is("4: wheel " + text, Tell.wheel(x, 3, 7, text), fault);
-        Check.is("5: fault of " + text, x.fault(), place);
-        Check.is("4: the tape is empty behind " + text, x.count(4), 0);
-    }
-
     private static void tokens() {
-        houseFault("", 0, -1);
-        houseFault("  \n ", 0, -1);
-        houseFault("hand1for2;hand 3\nfor\n\n4 ;", 0, -1);
-        houseFault("hand 0000001 for 2;", 0, -1);
-        houseFault("hand 00000001 for 2;", 2, 5);
-        houseFault("hand 12345678901234567890 for 2;", 2, 5);
-        houseFault("12345678;", 1, 0);
-        houseFault("hand 1 12345678 2;", 1, 7);
-        houseFault("hand 1 for for;", 1, 11);
-        houseFault(";", 1, 0);
-        houseFault("Hand 1 for 2;", 1, 0);
-        houseFault("hand 1 for 2", 1, 12);
-        houseFault("hand 1 for 2   ", 1, 15);
-        houseFault("hand 1 for", 1, 10);
-        houseFault("hand 1 for -2;", 1, 11);
-        houseFault("hand\t1 for 2;", 1, 4);
-        houseFault("hand 1\u00e9for 2;", 1, 6);
-        houseFault("hands 1 for 2;", 1, 0);
-        houseFault("han 1 for 2;", 1, 0);
-        houseFault("land 1 for 2;", 1, 0);
-        houseFault("handz 1 for 2;", 1, 0);
-        houseFault("hand 1 forz 2;", 1, 7);
-        houseFault("hand 1 for 2 z", 1, 13);
-        houseFault("azz", 1, 0);
-        houseFault("hand 1 for 2;;", 1, 13);
-        houseFault("hand 1 for 2; hand 3 for x;", 1, 25);
-        houseFault("hand 30 for x;", 2, 5);
-        houseFault("hand 1 for 2\u0000;", 1, 12);
+        Tell.houseFault("", 0, -1);
+        Tell.houseFault("  \n ", 0, -1);
+        Tell.houseFault("hand1for2;hand 3\nfor\n\n4 ;", 0, -1);
+        Tell.houseFault("hand 0000001 for 2;", 0, -1);
+        Tell.houseFault("hand 00000001 for 2;", 2, 5);
+        Tell.houseFault("hand 12345678901234567890 for 2;", 2, 5);
+        Tell.houseFault("12345678;", 1, 0);
+        Tell.houseFault("hand 1 12345678 2;", 1, 7);
+        Tell.houseFault("hand 1 for for;", 1, 11);
+        Tell.houseFault(";", 1, 0);
+        Tell.houseFault("Hand 1 for 2;", 1, 0);
+        Tell.houseFault("hand 1 for 2", 1, 12);
+        Tell.houseFault("hand 1 for 2   ", 1, 15);
+        Tell.houseFault("hand 1 for", 1, 10);
+        Tell.houseFault("hand 1 for -2;", 1, 11);
+        Tell.houseFault("hand\t1 for 2;", 1, 4);
+        Tell.houseFault("hand 1\u00e9for 2;", 1, 6);
+        Tell.houseFault("hands 1 for 2;", 1, 0);
+        Tell.houseFault("han 1 for 2;", 1, 0);
+        Tell.houseFault("land 1 for 2;", 1, 0);
+        Tell.houseFault("handz 1 for 2;", 1, 0);
+        Tell.houseFault("hand 1 forz 2;", 1, 7);
+        Tell.houseFault("hand 1 for 2 z", 1, 13);
+        Tell.houseFault("azz", 1, 0);
+        Tell.houseFault("hand 1 for 2;;", 1, 13);
+        Tell.houseFault("hand 1 for 2; hand 3 for x;", 1, 25);
+        Tell.houseFault("hand 30 for x;", 2, 5);
+        Tell.houseFault("hand 1 for 2\u0000;", 1, 12);
     }
 
     private static void setLines() {
-        houseFault("set 3 saturn at 21599 goes 2000000 swing 10800 in 1000000;", 0, -1);
-        houseFault("set 0 sun at 0 goes 0 swing 0 in 2;", 0, -1);
-        houseFault("set 4 sun at 0 goes 0;", 2, 4);
-        houseFault("set sun at 0 goes 0;", 1, 4);
-        houseFault("set 0 lot at 0 goes 0;", 1, 6);
-        houseFault("set 0 rise at 0 goes 0;", 1, 6);
-        houseFault("set 0 7 at 0 goes 0;", 1, 6);
-        houseFault("set 0 sun at 21600 goes 0;", 2, 13);
-        houseFault("set 0 sun goes 0;", 1, 10);
-        houseFault("set 0 sun at 0 goes 2000001;", 2, 20);
-        houseFault("set 0 sun at 0 swing 0 in 2;", 1, 15);
-        houseFault("set 0 sun at 0 goes 0 swing 10801 in 2;", 2, 28);
-        houseFault("set 0 sun at 0 goes 0 swing 1 in 1;", 2, 33);
-        houseFault("set 0 sun at 0 goes 0 swing 1 in 1000001;", 2, 33);
-        houseFault("set 0 sun at 0 goes 0 swing 1;", 1, 29);
-        houseFault("set 0 sun at 0 goes 0 in 2;", 1, 22);
-        houseFault("set 0 sun at 0 goes 0 swing 1 in 2 swing 1 in 2;", 1, 35);
-        houseFault("set 0 sun at 0 goes 0 set 0 sun at 0 goes 0;", 1, 22);
+        Tell.houseFault("set 3 saturn at 21599 goes 2000000 swing 10800 in 1000000;", 0, -1);
+        Tell.houseFault("set 0 sun at 0 goes 0 swing 0 in 2;", 0, -1);
+        Tell.houseFault("set 4 sun at 0 goes 0;", 2, 4);
+        Tell.houseFault("set sun at 0 goes 0;", 1, 4);
+        Tell.houseFault("set 0 lot at 0 goes 0;", 1, 6);
+        Tell.houseFault("set 0 rise at 0 goes 0;", 1, 6);
+        Tell.houseFault("set 0 7 at 0 goes 0;", 1, 6);
+        Tell.houseFault("set 0 sun at 21600 goes 0;", 2, 13);
+        Tell.houseFault("set 0 sun goes 0;", 1, 10);
+        Tell.houseFault("set 0 sun at 0 goes 2000001;", 2, 20);
+        Tell.houseFault("set 0 sun at 0 swing 0 in 2;", 1, 15);
+        Tell.houseFault("set 0 sun at 0 goes 0 swing 10801 in 2;", 2, 28);
+        Tell.houseFault("set 0 sun at 0 goes 0 swing 1 in 1;", 2, 33);
+        Tell.houseFault("set 0 sun at 0 goes 0 swing 1 in 1000001;", 2, 33);
+        Tell.houseFault("set 0 sun at 0 goes 0 swing 1;", 1, 29);
+        Tell.houseFault("set 0 sun at 0 goes 0 in 2;", 1, 22);
+        Tell.houseFault("set 0 sun at 0 goes 0 swing 1 in 2 swing 1 in 2;", 1, 35);
+        Tell.houseFault("set 0 sun at 0 goes 0 set 0 sun at 0 goes 0;", 1, 22);
     }
 
     private static void climateLines() {
-        houseFault(Tell.LEVEL + Tell.STEEP, 0, -1);
-        houseFault("climate 1 300;", 2, 8);
-        houseFault("climate x 300;", 1, 8);
-        houseFault("climate 0 300 0 300 300 300 300 300 300 300 300 300 600;", 2, 14);
-        houseFault("climate 0 1 1 1 1 1 1 1 1 1 1 1 3589;", 0, -1);
-        houseFault("climate 0 1 1 1 1 1 1 1 1 1 1 1 3588;", 2, 32);
-        houseFault("climate 0 1 1 1 1 1 1 1 1 1 1 3590 0;", 2, 35);
-        houseFault("climate 0 9999999 1 1 1 1 1 1 1 1 1 1 1;", 2, 38);
-        houseFault("climate 0 9999999 1 1 1 1 1 1 1 1 1 1 x;", 1, 38);
-        houseFault("climate 0 10000000 1 1 1 1 1 1 1 1 1 1 1;", 2, 10);
-        houseFault("climate 0 1 1 1 1 1 1 1 1 1 1 1;", 1, 31);
-        houseFault("climate 0 300 300 300 300 300 300 300 300 300 300 300 300 0;", 1, 58);
+        Tell.houseFault(Tell.LEVEL + Tell.STEEP, 0, -1);
+        Tell.houseFault("climate 1 300;", 2, 8);
+        Tell.houseFault("climate x 300;", 1, 8);
+        Tell.houseFault("climate 0 300 0 300 300 300 300 300 300 300 300 300 600;", 2, 14);
+        Tell.houseFault("climate 0 1 1 1 1 1 1 1 1 1 1 1 3589;", 0, -1);
+        Tell.houseFault("climate 0 1 1 1 1 1 1 1 1 1 1 1 3588;", 2, 32);
+        Tell.houseFault("climate 0 1 1 1 1 1 1 1 1 1 1 3590 0;", 2, 35);
+        Tell.houseFault("climate 0 9999999 1 1 1 1 1 1 1 1 1 1 1;", 2, 38);
+        Tell.houseFault("climate 0 9999999 1 1 1 1 1 1 1 1 1 1 x;", 1, 38);
+        Tell.houseFault("climate 0 10000000 1 1 1 1 1 1 1 1 1 1 1;", 2, 10);
+        Tell.houseFault("climate 0 1 1 1 1 1 1 1 1 1 1 1;", 1, 31);
+        Tell.houseFault("climate 0 300 300 300 300 300 300 300 300 300 300 300 300 0;", 1, 58);
         WheelBook x = new WheelBook();
         for (int climate = 0; climate < 7; climate++) {
             Check.is("3: climate " + climate, Tell.house(x, "climate " + climate + Tell.LEVEL.substring(9)), 0);
@@ -153,9 +139,9 @@ public final class TextTest {
     }
 
     private static void handLines() {
-        houseFault("hand 29 for 29;", 0, -1);
-        houseFault("hand 1 for 30;", 2, 11);
-        houseFault("hand 1 fur 3;", 1, 7);
+        Tell.houseFault("hand 29 for 29;", 0, -1);
+        Tell.houseFault("hand 1 for 30;", 2, 11);
+        Tell.houseFault("hand 1 fur 3;", 1, 7);
         WheelBook x = new WheelBook();
         StringBuilder thirty = new StringBuilder();
         for (int i = 0; i < 30; i++) {
@@ -222,30 +208,30 @@ public final class TextTest {
     }
 
     private static void wheelFaults() {
-        wheelFault("sun 12 0;", 2, 4);
-        wheelFault("sun 0 30;", 2, 6);
-        wheelFault("sun 0;", 1, 5);
-        wheelFault("sun 0 0 0;", 1, 8);
-        wheelFault("sun 0 0", 1, 7);
-        wheelFault("set 0 0;", 1, 0);
-        wheelFault("lots 0 0;", 1, 0);
-        wheelFault("house 0 0 0;", 2, 6);
-        wheelFault("house 13 0 0;", 2, 6);
-        wheelFault("house 12345678 0 0;", 2, 6);
-        wheelFault("house sun 0 0;", 1, 6);
-        wheelFault("house", 1, 5);
-        wheelFault("house 1 12 0;", 2, 8);
-        wheelFault("house 1 1 1;house 2 1 1;house 1", 3, 30);
-        wheelFault("house 1 1 1;house 13", 2, 18);
-        wheelFault("sun 0 0;moon 0 0;sun", 3, 17);
-        wheelFault("rise 0 0;rise x", 3, 9);
-        wheelFault("lot 0 0; lot 0 0;", 3, 9);
-        wheelFault("date 13 0;", 2, 5);
-        wheelFault("date 12 5;", 2, 8);
-        wheelFault("date 11 30;", 2, 8);
-        wheelFault("date 12 4;date 1 1;", 3, 10);
-        wheelFault("date 1;", 1, 6);
-        wheelFault("sun 0 0;moon 0 30;sun 0 0;", 2, 15);
+        Tell.wheelFault("sun 12 0;", 2, 4);
+        Tell.wheelFault("sun 0 30;", 2, 6);
+        Tell.wheelFault("sun 0;", 1, 5);
+        Tell.wheelFault("sun 0 0 0;", 1, 8);
+        Tell.wheelFault("sun 0 0", 1, 7);
+        Tell.wheelFault("set 0 0;", 1, 0);
+        Tell.wheelFault("lots 0 0;", 1, 0);
+        Tell.wheelFault("house 0 0 0;", 2, 6);
+        Tell.wheelFault("house 13 0 0;", 2, 6);
+        Tell.wheelFault("house 12345678 0 0;", 2, 6);
+        Tell.wheelFault("house sun 0 0;", 1, 6);
+        Tell.wheelFault("house", 1, 5);
+        Tell.wheelFault("house 1 12 0;", 2, 8);
+        Tell.wheelFault("house 1 1 1;house 2 1 1;house 1", 3, 30);
+        Tell.wheelFault("house 1 1 1;house 13", 2, 18);
+        Tell.wheelFault("sun 0 0;moon 0 0;sun", 3, 17);
+        Tell.wheelFault("rise 0 0;rise x", 3, 9);
+        Tell.wheelFault("lot 0 0; lot 0 0;", 3, 9);
+        Tell.wheelFault("date 13 0;", 2, 5);
+        Tell.wheelFault("date 12 5;", 2, 8);
+        Tell.wheelFault("date 11 30;", 2, 8);
+        Tell.wheelFault("date 12 4;date 1 1;", 3, 10);
+        Tell.wheelFault("date 1;", 1, 6);
+        Tell.wheelFault("sun 0 0;moon 0 30;sun 0 0;", 2, 15);
         WheelBook x = new WheelBook();
         Tell.told(x, 1, 2, "sun 1 1;rise 2 2;");
         Check.is("4: FAULT", Tell.wheel(x, 1, 2, "sun 5 5;mars 12 0;"), 2);
