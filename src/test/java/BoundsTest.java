@@ -14,6 +14,7 @@ public final class BoundsTest {
         climatesAsTold();
         spans();
         nothingBegun();
+        lastCall();
         Check.end("BoundsTest");
     }
 
@@ -105,5 +106,16 @@ public final class BoundsTest {
             char got = bounds.outcome(new WheelBook(), bounds.least.clone());
             Check.is("1: " + bounds.text(bounds.least) + " of nothing ends " + got + ", due is " + due, got == due, true);
         }
+    }
+
+    private static void lastCall() {
+        Check.sentence("An object is used for at most 512 calls after it has been made");
+        WheelBook x = new WheelBook();
+        for (int call = 1; call < 511; call += 2) {
+            Check.is("2: call " + call, x.feed(0x73756e20, 0x3020303b, 0x20202020, 0x20202020, 0x20202020), 20);
+            Check.is("4: call " + (call + 1), x.wheel(call / 2 % 6, call / 2 % 20, 8), 0);
+        }
+        Check.is("6: call 511", x.count(2), 60);
+        Check.is("35: call 512", x.births(-1, 1), 1);
     }
 }

@@ -268,8 +268,13 @@ public final class ClimateEdgesTest {
         Check.is("19: all twelve by WAY 1", x.agree(0, 0, 1, 0), 12);
         Check.is("19: all twelve by WAY 2", x.agree(0, 0, 2, 0), 12);
         Check.is("19: none by WAY 0", x.agree(0, 0, 0, 0), 0);
-        Tell.told(x, 0, 0, "rise 0 5;sun 3 0;");
-        Check.is("19: no house told", x.agree(0, 0, 0, 0), 0);
+        Tell.told(x, 0, 0, "rise 0 5;sun 3 0;lot 11 5;date 11 5;");
+        for (int way = 0; way <= 2; way++) {
+            Check.is("19: no house told, WAY " + way, x.agree(0, 0, way, 0), 0);
+        }
+        Check.is("29: nor one that would not agree", x.possible(0, 0, 0), 7);
+        Tell.told(x, 0, 0, "rise 0 5;lot 7 7;house 1 0 5;house 12 11 5;date 7 7;");
+        Check.is("19: LOT and DATE are no houses", x.agree(0, 0, 1, 0), 2);
         Tell.told(x, 0, 0, "rise 0 5;house 1 0 0;house 12 11 0;house 2 1 1;");
         Check.is("19: two of three", x.agree(0, 0, 0, 0), 2);
     }
@@ -302,6 +307,13 @@ public final class ClimateEdgesTest {
         for (int i = 0; i < wheels.length; i++) {
             Tell.told(x, 0, 0, wheels[i]);
             Check.is("29: WAYS of " + wheels[i], x.possible(0, 0, 0), due[i]);
+        }
+        WheelBook uneven = Tell.withHouse("climate 0 200 240 280 320 360 400 400 360 320 280 240 200;");
+        String[] unevenWheels = {"rise 0 1;house 10 9 1;", "rise 0 1;house 10 9 0;", "rise 0 0;house 10 8 13;", "rise 0 0;house 10 9 0;"};
+        int[] unevenDue = {2, 1, 4, 3};
+        for (int i = 0; i < unevenWheels.length; i++) {
+            Tell.told(uneven, 0, 0, unevenWheels[i]);
+            Check.is("29: WAYS by an uneven CLIMATE 0 of " + unevenWheels[i], uneven.possible(0, 0, 0), unevenDue[i]);
         }
         WheelBook none = Tell.withWheel("rise 1 0;");
         Check.is("29: without a CLIMATE there is none by which all agree", none.possible(0, 0, 0), 3);
@@ -357,7 +369,7 @@ public final class ClimateEdgesTest {
     }
 
     private static void lotByDay() {
-        Check.sentence("if the sun is up (RISE less sun, MOD 360, below 180)");
+        Check.sentence("RISE and moon less sun, if the sun is up (RISE less sun, MOD 360, below 180), else RISE and sun less moon.");
         Check.is("20: 0", lotOf("sun 1 0;rise 1 0;moon 2 0;"), 60);
         Check.is("20: 179", lotOf("sun 0 0;rise 5 29;moon 1 0;"), 209);
         Check.is("20: 180", lotOf("sun 0 0;rise 6 0;moon 1 0;"), 150);
@@ -419,10 +431,12 @@ public final class ClimateEdgesTest {
         Check.missing("16: CLIMATE -1", () -> x.middle(-1, 0));
         Check.missing("14: PLACE 21600", () -> x.climb(6, 21600));
         Check.missing("14: PLACE -1", () -> x.climb(6, -1));
-        Check.missing("15: PLACE 21600", () -> x.rise(6, 21600, 0));
-        Check.missing("15: PLACE -1", () -> x.rise(6, -1, 0));
+        Check.sentence("MIDDLE. NoSuchElementException: likewise.");
         Check.missing("16: PLACE 21600", () -> x.middle(6, 21600));
         Check.missing("16: PLACE -1", () -> x.middle(6, -1));
+        Check.sentence("RISE by a CLIMATE, of a PLACE of the sun, at a TIME. NoSuchElementException: also no such PLACE, TIME.");
+        Check.missing("15: PLACE 21600", () -> x.rise(6, 21600, 0));
+        Check.missing("15: PLACE -1", () -> x.rise(6, -1, 0));
         Check.sentence("TIMES are DEGREES of turning, 0 to 359, since the sun rose.");
         Check.is("15: TIME 0", x.rise(6, 0, 0), 0);
         Check.is("15: TIME 359", x.rise(6, 0, 359), 21540);

@@ -7,6 +7,7 @@ public final class CopyEdgesTest {
         priceOfAll();
         priceRefused();
         treeIsNoRing();
+        treesOfOneRow();
         treeOfTheFirstRow();
         treeKept();
         treeOfTheLeastSum();
@@ -134,6 +135,33 @@ public final class CopyEdgesTest {
         whence(x, 1, 5, 3, 5, 5, -1);
     }
 
+    /** Each BOOK tells one ENTRY less than the one it was copied from: in all 720 orders. */
+    private static void treesOfOneRow() {
+        for (int code = 0; code < 720; code++) {
+            int[] order = {0, 1, 2, 3, 4, 5};
+            int rest = code;
+            for (int i = 0; i < 5; i++) {
+                int j = i + rest % (6 - i);
+                rest /= 6 - i;
+                int swap = order[i];
+                order[i] = order[j];
+                order[j] = swap;
+            }
+            WheelBook x = new WheelBook();
+            int[] due = new int[6];
+            for (int i = 0; i < 6; i++) {
+                StringBuilder text = new StringBuilder();
+                for (int entry = 0; entry < 6 - i; entry++) {
+                    text.append(entryName(entry)).append(" 0 0;");
+                }
+                Tell.wheel(x, order[i], 0, text.toString());
+                due[order[i]] = i == 0 ? -1 : order[i - 1];
+            }
+            Check.is("36: a row of five copies", x.tree(), 5);
+            whence(x, due);
+        }
+    }
+
     private static void treeOfTheFirstRow() {
         Check.sentence("the least sum of PRICES; of like ones the first as a row: by BOOKS from 0 on whence "
                 + "(the first one: NONE; NONE ahead of 0)");
@@ -239,6 +267,13 @@ public final class CopyEdgesTest {
         x.tree();
         Check.is("30: a SIGN and a degree by one HAND, not both at once", x.slips(1, 0), 2);
         Check.is("30: alike is no SLIP", x.slips(0, 0), 0);
+        for (int copy = 0; copy < 6; copy++) {
+            WheelBook y = Tell.withHouse("hand 1 for 0;");
+            Tell.told(y, (copy + 1) % 6, 0, "sun 0 0;moon 0 0;");
+            Tell.told(y, copy, 0, "sun 0 1;");
+            Check.is("36: BOOK " + copy + " is the copy", y.tree(), 2);
+            Check.is("30: BOOK " + copy + " is the copy", y.slips(1, 0), 1);
+        }
     }
 
     private static void slipsRefused() {

@@ -4,7 +4,9 @@ public final class SkyEdgesTest {
     private static final String[] NAMES = {"sun", "moon", "mercury", "venus", "mars", "jupiter", "saturn"};
 
     public static void main(String[] args) {
+        wanderersSetsAndDays();
         places();
+        placeRefused();
         degrees();
         signs();
         goes();
@@ -14,6 +16,7 @@ public final class SkyEdgesTest {
         costOfEntry();
         costOfWheel();
         costOfDate();
+        costRefused();
         bestSpan();
         bestRefused();
         bestKeepsTwenty();
@@ -33,6 +36,38 @@ public final class SkyEdgesTest {
     /** By SET 0 the sun goes one minute a DAY, from PLACE 0 on DAY 0. */
     private static WheelBook minutes() {
         return Tell.withHouse("set 0 sun at 0 goes 1000;");
+    }
+
+    private static void wanderersSetsAndDays() {
+        Check.sentence("WANDERERS 0 sun, 1 moon, 2 mercury, 3 venus, 4 mars, 5 jupiter, 6 saturn. SETS of tables 0 to 3; DAYS 0 to 1,000,000.");
+        WheelBook x = new WheelBook();
+        for (int i = 0; i < 28; i++) {
+            Tell.house(x, "set " + i / 7 + " " + NAMES[i % 7] + " at " + 60 * i + " goes 1;");
+        }
+        for (int i = 0; i < 28; i++) {
+            Check.is("7: SET " + i / 7 + ", " + NAMES[i % 7] + ", DAY 0", x.place(i / 7, i % 7, 0), 60 * i);
+            Check.is("7: SET " + i / 7 + ", " + NAMES[i % 7] + ", the last DAY", x.place(i / 7, i % 7, LAST), 60 * i + 1000);
+        }
+        for (int wanderer = 0; wanderer < 7; wanderer++) {
+            Tell.told(x, 0, wanderer, NAMES[wanderer] + " 0 " + (7 + wanderer) + ";");
+            for (int set = 0; set < 4; set++) {
+                Check.is("9: " + NAMES[wanderer] + " by SET " + set, x.cost(0, wanderer, set, 0), set == 1 ? 0 : 9);
+                Check.is("27: " + NAMES[wanderer] + " by SET " + set, x.misread(0, wanderer, set, 0, wanderer), set == 1 ? 0 : 9);
+            }
+        }
+    }
+
+    private static void placeRefused() {
+        Check.sentence("A PLACE by a SET. NoSuchElementException: no such SET (as everywhere), WANDERER, DAY.");
+        WheelBook x = minutes();
+        Check.is("7: SET 0, WANDERER 0, DAY 0", x.place(0, 0, 0), 0);
+        Check.is("7: SET 3, WANDERER 6, DAY 1,000,000", x.place(3, 6, LAST), 0);
+        Check.missing("7: SET 4", () -> x.place(4, 0, 0));
+        Check.missing("7: SET -1", () -> x.place(-1, 6, 0));
+        Check.missing("7: WANDERER 7", () -> x.place(0, 7, 0));
+        Check.missing("7: WANDERER -1", () -> x.place(1, -1, 0));
+        Check.missing("7: DAY 1,000,001", () -> x.place(0, 0, LAST + 1));
+        Check.missing("7: DAY -1", () -> x.place(0, 0, -1));
     }
 
     private static void places() {
@@ -230,6 +265,21 @@ public final class SkyEdgesTest {
         Check.is("9: DATE 265, the last DAY", x.cost(0, 0, 0, LAST), 0);
     }
 
+    private static void costRefused() {
+        Check.sentence("COST of a WHEEL on a DAY by a SET. NoSuchElementException: also no such DAY.");
+        WheelBook x = minutes();
+        Check.is("9: DAY 0", x.cost(0, 0, 0, 0), 0);
+        Check.is("9: DAY 1,000,000", x.cost(5, 19, 3, LAST), 0);
+        Check.missing("9: DAY 1,000,001", () -> x.cost(0, 0, 0, LAST + 1));
+        Check.missing("9: DAY -1", () -> x.cost(0, 0, 0, -1));
+        Check.missing("9: SET 4", () -> x.cost(0, 0, 4, 0));
+        Check.missing("9: SET -1", () -> x.cost(0, 0, -1, 0));
+        Check.missing("9: BOOK 6", () -> x.cost(6, 0, 0, 0));
+        Check.missing("9: BOOK -1", () -> x.cost(-1, 0, 0, 0));
+        Check.missing("9: WHEEL 20", () -> x.cost(0, 20, 0, 0));
+        Check.missing("9: WHEEL -1", () -> x.cost(0, -1, 0, 0));
+    }
+
     // ---- BEST, WHOSE, MIXED
 
     private static void bestSpan() {
@@ -269,6 +319,7 @@ public final class SkyEdgesTest {
         Check.illegal("10: to 1,000,001", () -> x.best(0, 0, 0, LAST, 1));
         Check.illegal("10: to 1,000,001", () -> x.best(0, 0, 0, 950001, 50000));
         Check.illegal("10: to 1,000,001", () -> x.best(0, 0, 0, 999999, 2));
+        Check.sentence("NoSuchElementException: also no such DAY.");
         Check.missing("10: BOOK comes first", () -> x.best(6, 0, 0, 0, -1));
         Check.missing("10: WHEEL comes first", () -> x.best(0, 20, 0, 0, -1));
         Check.missing("10: SET comes first", () -> x.best(0, 0, 4, 0, -1));
@@ -458,29 +509,34 @@ public final class SkyEdgesTest {
     /** Of each row of SETS that share a WANDERER's DEGREE what is SHARED, ALONE and WEIGHED. */
     private static void weights() {
         Check.sentence("ALONE: those that of 1 to 3 it alone shares. WEIGHT of a SET: of each it shares 6 by how many of 1 to 3 do (6, 3, 2).");
-        int[] shares = {0, 6, 3, 2};
-        for (int bits = 0; bits < 8; bits++) {
-            StringBuilder tables = new StringBuilder("set 0 moon at 0 goes 0;");
-            for (int set = 1; set <= 3; set++) {
-                boolean shared = (bits >> set - 1 & 1) == 1;
-                tables.append("set ").append(set).append(" moon at ").append(shared ? 600 : 1200).append(" goes 0;");
-            }
-            WheelBook x = Tell.withHouse(tables.toString());
-            Tell.told(x, 0, 0, "moon 0 10;");
-            int many = Integer.bitCount(bits);
-            for (int set = 1; set <= 3; set++) {
-                boolean shared = (bits >> set - 1 & 1) == 1;
-                Check.is("28: SHARED by " + set + " of " + bits, x.errors(0, 0, 0, 1 + set), shared ? 1 : 0);
-                Check.is("28: ALONE by " + set + " of " + bits, x.errors(0, 0, 0, 4 + set), shared && many == 1 ? 1 : 0);
-                Check.is("28: WEIGHT of " + set + " of " + bits, x.errors(0, 0, 0, 7 + set), shared ? shares[many] : 0);
-            }
-            Check.is("28: FOLLOWED of " + bits, x.errors(0, 0, 0, 1), bits == 0 ? -1 : Integer.numberOfTrailingZeros(bits) + 1);
+        for (int i = 0; i < 7 * 8; i++) {
+            weightsOf(NAMES[i / 8], i % 8);
         }
         WheelBook x = Tell.withHouse("set 0 moon at 600 goes 0;set 1 moon at 600 goes 0;");
         Tell.told(x, 0, 0, "moon 0 10;");
         Check.is("28: no ERROR, not SHARED", x.errors(0, 0, 0, 2), 0);
         Check.is("28: no ERROR, not ALONE", x.errors(0, 0, 0, 5), 0);
         Check.is("28: no ERROR, no WEIGHT", x.errors(0, 0, 0, 8), 0);
+    }
+
+    private static void weightsOf(String name, int bits) {
+        int[] shares = {0, 6, 3, 2};
+        StringBuilder tables = new StringBuilder();
+        for (int set = 1; set <= 3; set++) {
+            boolean shared = (bits >> set - 1 & 1) == 1;
+            tables.append("set ").append(set).append(' ').append(name).append(" at ").append(shared ? 600 : 1200).append(" goes 0;");
+        }
+        WheelBook x = Tell.withHouse(tables.toString());
+        Tell.told(x, 0, 0, name + " 0 10;");
+        int many = Integer.bitCount(bits);
+        Check.is("28: an ERROR, " + name, x.errors(0, 0, 0, 0), 1);
+        for (int set = 1; set <= 3; set++) {
+            boolean shared = (bits >> set - 1 & 1) == 1;
+            Check.is("28: SHARED by " + set + " of " + bits, x.errors(0, 0, 0, 1 + set), shared ? 1 : 0);
+            Check.is("28: ALONE by " + set + " of " + bits, x.errors(0, 0, 0, 4 + set), shared && many == 1 ? 1 : 0);
+            Check.is("28: WEIGHT of " + set + " of " + bits, x.errors(0, 0, 0, 7 + set), shared ? shares[many] : 0);
+        }
+        Check.is("28: FOLLOWED of " + bits, x.errors(0, 0, 0, 1), bits == 0 ? -1 : Integer.numberOfTrailingZeros(bits) + 1);
     }
 
     private static void followed() {

@@ -34,6 +34,7 @@ public final class TextEdgesTest {
         booksAndWheels();
         nothingToldAtFirst();
         entryNumbers();
+        entry();
         feed();
         house();
         faultyHouse();
@@ -76,6 +77,9 @@ public final class TextEdgesTest {
         Tell.houseFault("hand 1 fora 2;", 1, 7);
         Tell.houseFault("hand 1 forhand 2;", 1, 7);
         Tell.houseFault("hand 1 fo r 2;", 1, 7);
+        Tell.houseFault("land 1 for 2;", 1, 0);
+        Tell.houseFault("hank 1 for 2;", 1, 0);
+        Tell.houseFault("hand 1 nor 2;", 1, 7);
         Tell.houseFault("hand1for2;", 0, -1);
         Tell.wheelFault("suns 0 0;", 1, 0);
         Tell.wheelFault("su 0 0;", 1, 0);
@@ -196,6 +200,13 @@ public final class TextEdgesTest {
     }
 
     private static void eachTokenOfLines() {
+        Check.sentence("LINE: ('set' NUMBER NAME 'at' NUMBER 'goes' NUMBER ['swing' NUMBER 'in' NUMBER] | "
+                + "'climate' NUMBER NUMBER .. (twelve) | 'hand' NUMBER 'for' NUMBER) ';'.");
+        Tell.houseFault("set 0 sun at 1 goes 2;set 0 sun at 1 goes 2 swing 3 in 4;", 0, -1);
+        Tell.houseFault("set 0 sun at 1 goes 2 swing 3;", 1, 29);
+        Tell.houseFault("set 0 sun at 1 goes 2 in 4;", 1, 22);
+        Tell.houseFault("set 0 sun goes 2 at 1;", 1, 10);
+        Tell.houseFault("hand 1 for 2 for 3;", 1, 13);
         Check.sentence("1 a TOKEN that can't stand there, or is none (the text's length where it ends too soon)");
         eachToken(true, "set", "0", "sun", "at", "5", "goes", "6", "swing", "7", "in", "8", ";");
         eachToken(true, "set", "3", "saturn", "at", "5", "goes", "6", ";");
@@ -480,6 +491,7 @@ public final class TextEdgesTest {
         Tell.houseFault("hand 29 for 0;", 0, -1);
         Tell.houseFault("hand 30 for 0;", 2, 5);
         Tell.houseFault("hand 0 for 30;", 2, 11);
+        Check.sentence("'hand' a 'for' b: b stood there, a was read.");
         WheelBook x = Tell.withHouse("hand 29 for 0;");
         Tell.told(x, 0, 0, "sun 0 29;");
         Check.is("9: 29 was read for 0", x.cost(0, 0, 0, 0), 1);
@@ -593,6 +605,24 @@ public final class TextEdgesTest {
         Check.is("8: DATE 364", Tell.withWheel("date 12 4;").entry(0, 0, 21), 364);
         Check.is("8: DEGREE 0", Tell.withWheel("lot 0 0;").entry(0, 0, 8), 0);
         Check.is("8: DEGREE 359", Tell.withWheel("lot 11 29;").entry(0, 0, 8), 359);
+    }
+
+    private static void entry() {
+        Check.sentence("A DEGREE of an ENTRY (0 to 359; of 21 the DATE); NONE: it isn't told. NoSuchElementException: also no such ENTRY.");
+        WheelBook x = new WheelBook();
+        Tell.told(x, 5, 19, "sun 0 0;saturn 11 29;house 1 11 29;house 12 0 0;date 12 4;");
+        Check.is("8: the least", x.entry(5, 19, 0), 0);
+        Check.is("8: the greatest", x.entry(5, 19, 6), 359);
+        Check.is("8: house 1", x.entry(5, 19, 9), 359);
+        Check.is("8: house 12", x.entry(5, 19, 20), 0);
+        Check.is("8: the DATE", x.entry(5, 19, 21), 364);
+        Check.is("8: not told", x.entry(5, 19, 1), -1);
+        Check.missing("8: 22", () -> x.entry(5, 19, 22));
+        Check.missing("8: -1", () -> x.entry(5, 19, -1));
+        Check.missing("8: BOOK 6", () -> x.entry(6, 19, 0));
+        Check.missing("8: BOOK -1", () -> x.entry(-1, 19, 0));
+        Check.missing("8: WHEEL 20", () -> x.entry(5, 20, 0));
+        Check.missing("8: WHEEL -1", () -> x.entry(5, -1, 0));
     }
 
     // ---- promises 2 to 6
@@ -765,6 +795,7 @@ public final class TextEdgesTest {
         for (int what = 0; what <= 5; what++) {
             Check.is("6: of " + what, x.count(what), due[what]);
         }
+        Check.sentence("NoSuchElementException: another what.");
         Check.missing("6: 6", () -> x.count(6));
         Check.missing("6: -1", () -> x.count(-1));
     }
