@@ -2,6 +2,7 @@ import java.lang.reflect.Constructor;
 import java.lang.reflect.Field;
 import java.lang.reflect.Method;
 import java.lang.reflect.Modifier;
+import java.util.NoSuchElementException;
 import java.util.TreeSet;
 
 /** The document's face, whole, and nothing else that can be seen from outside. */
@@ -29,11 +30,40 @@ public final class FaceTest {
             }
         }
         Check.is("the face is " + seen, String.join(" ", seen).equals(DUE), true);
+        for (Method method : WheelBook.class.getDeclaredMethods()) {
+            if (Modifier.isPrivate(method.getModifiers())) {
+                Check.is(method + " bears a name of the face", names.contains(method.getName()), false);
+            } else {
+                Check.is(method.getName() + " tells what it throws", thrown(method), thrownBy(method.getName()));
+            }
+        }
         for (Class<?> inside : WheelBook.class.getDeclaredClasses()) {
             Check.is(inside + " is static", Modifier.isStatic(inside.getModifiers()), true);
             for (Method method : inside.getDeclaredMethods()) {
                 Check.is(method + " bears a name of the face", names.contains(method.getName()), false);
             }
+        }
+    }
+
+    /** 1 for NoSuchElementException, 2 for IllegalArgumentException, 4 for any other. */
+    private static int thrown(Method method) {
+        int bits = 0;
+        for (Class<?> type : method.getExceptionTypes()) {
+            bits |= type == NoSuchElementException.class ? 1 : type == IllegalArgumentException.class ? 2 : 4;
+        }
+        return bits;
+    }
+
+    private static int thrownBy(String name) {
+        switch (name) {
+            case "feed", "fault", "image", "restore", "tree":
+                return 0;
+            case "house":
+                return 2;
+            case "wheel", "best", "whose", "mixed", "on":
+                return 3;
+            default:
+                return 1;
         }
     }
 
